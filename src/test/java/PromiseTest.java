@@ -157,6 +157,10 @@ public final class PromiseTest {
         errorAt("Hr111:", 5);
         errorAt("Hr111/", 5);
         errorAt("Hr1113", 6);
+        errorAt("Hr1110:", 6);
+        errorAt("Hr1111/", 6);
+        errorAt("Hr:", 2);
+        errorAt("Hr/", 2);
         errorAt("Hr11130", NONE);
         errorAt("Hr11131", 6);
         errorAt("Hr99900", NONE);
@@ -179,6 +183,10 @@ public final class PromiseTest {
         errorAt("Ho-20", NONE);
         errorAt("Ho-21", 4);
         errorAt("Ho+25o-20o+00", NONE);
+        HallHeating shorter = new HallHeating();
+        type(shorter, "Hr11130g");
+        type(shorter, "Hr1113");
+        is("errorPosition of a text after a longer one", shorter.errorPosition(), 6);
         errorPositionOfBookings();
     }
 
@@ -225,7 +233,7 @@ public final class PromiseTest {
         h.addGroup();
         h.book(0, 0, 0, 3, 20);
         h.outside(7);
-        h.pass(2);
+        h.pass(1);
         h.save(0);
         h.save(1);
         String before = all(h);
@@ -233,13 +241,19 @@ public final class PromiseTest {
         fails("load of no hall", STATE, h::load);
         same("state then", all(h), before);
         is("undo then", h.undo(), 4);
-        is("restore then", h.restore(1), 2);
+        is("restore then", h.restore(1), 1);
         h.append('1');
         h.append('9');
+        h.pass(1);
+        h.prove(0, true);
+        h.pass(1);
+        is("the parish paid", h.about(7), 1);
+        is("simulate, so that something was tried out", h.simulate(1, 40) >= 0 ? 1 : 0, 1);
         is("load", h.load(), 2);
         fails("undo then", STATE, h::undo);
         fails("restore(0) then", STATE, () -> h.restore(0));
         fails("restore(1) then", STATE, () -> h.restore(1));
+        is("willOwe(0)", h.willOwe(0), 0);
         same("hall of the text", all(h), "0 2 2 1 -19 0 0 0 0 0 1 2 3 4 -99 0 -99 5 6 7 30 -99 -99 -99 0 0 0 1 7 3 12 0 0 0 0 0 ");
         is("length then", h.clearText(), 29);
         type(h, "H");
@@ -328,6 +342,15 @@ public final class PromiseTest {
         is("begun, so it goes on", begun.room(0, 6), 0);
         is("pass", begun.pass(1), 2);
         is("a degree from outside, one from heating", begun.room(0, 3), 13);
+        begun.undo();
+        is("begun on a copy, too", begun.later(0, 1), 13);
+        is("begun in a state that is undone to, too", begun.room(0, 6), 0);
+        HallHeating hundred = new HallHeating();
+        hundred.addRoom(1, 5, 1, 25);
+        is("5 * 20 / 100 degrees less", hundred.later(0, 1), 24);
+        HallHeating above = loaded("Hr11130go+25b000000112");
+        is("pass above the wanted temperature", above.pass(1), 0);
+        is("it is not cooled to it", above.room(0, 3), 30);
         HallHeating next = slow();
         next.pass(6);
         next.book(0, 0, 13, 1, 12);
@@ -462,8 +485,20 @@ public final class PromiseTest {
         is("owes(0)", again.owes(0), 1);
         again.addGroup();
         is("owes(1)", again.owes(1), 0);
+        HallHeating second = new HallHeating();
+        second.addRoom(1, 1, 1, 10);
+        second.addGroup();
+        second.save(0);
+        second.addGroup();
+        second.book(0, 1, 0, 1, 25);
+        second.pass(1);
+        is("owes(1), charged", second.owes(1), 1);
+        second.restore(0);
+        second.addGroup();
+        is("owes(1), added after restore", second.owes(1), 0);
         HallHeating used = plain();
         used.pass(8);
+        is("willOwe(1)", used.willOwe(1), 12);
         type(used, "Hg");
         used.load();
         is("owes(0), loaded anew", used.owes(0), 0);
@@ -540,8 +575,20 @@ public final class PromiseTest {
         fresh.book(0, 1, 7, 1, 20);
         is("a new one is not marked", fresh.booking(1, 7), 0);
         fresh.cancel(1);
-        fresh.book(0, 1, 20, 1, 20);
-        is("nor has it heat", fresh.booking(1, 6), 0);
+        HallHeating again = new HallHeating();
+        again.addRoom(1, 1, 1, 10);
+        again.addGroup();
+        again.save(0);
+        again.book(0, 0, 2, 1, 20);
+        again.pass(3);
+        int[] heated = {0, 0, 2, 1, 20, 2, 1, 0, 1, 1};
+        for (int w = 0; w <= 9; w++) is("booking(0, " + w + ")", again.booking(0, w), heated[w]);
+        again.restore(0);
+        again.book(0, 0, 3, 1, 12);
+        int[] anew = {0, 0, 3, 1, 12, 0, 0, 0, 0, 0};
+        for (int w = 0; w <= 9; w++) is("a new booking(0, " + w + ")", again.booking(0, w), anew[w]);
+        is("not begun", again.room(0, 6), NONE);
+        is("it can be cancelled", again.cancel(0), 0);
     }
 
     private static void prove() {
@@ -855,6 +902,20 @@ public final class PromiseTest {
         script(many, 2, 51100_51100L, 1);
         script(many, 2, 10048_81101L, NONE);
         script(many, 1, 81200, 0);
+        HallHeating big = loaded("Hr99900go+00b000001220b000121220b000241220");
+        big.pass(36);
+        int owed = big.owes(0);
+        is("owes, on three digits", owed >= 200 && owed <= 999 ? 1 : 0, 1);
+        script(big, 1, 70000 + owed, NONE);
+        script(big, 1, 70000 + owed - 1, 0);
+        HallHeating bigger = loaded("Hr99900r99900r99900go+00b000001225b000121225b000241225b100001225b100121225"
+            + "b200001225b200121225");
+        bigger.outside(-20);
+        bigger.pass(36);
+        int meter = bigger.about(5);
+        is("the meter, on four digits", meter >= 2000 && meter <= 9999 ? 1 : 0, 1);
+        script(bigger, 1, 90000 + meter, NONE);
+        script(bigger, 1, 90000 + meter + 1, 0);
         HallHeating below = plain();
         below.pass(6);
         below.pay(0);
