@@ -1,71 +1,8 @@
 /** Checks each promise of the document: ordinary inputs, edges, wrong inputs. Numbers are worked out by hand. */
-public final class PromiseTest {
-    private static final int NONE = -99;
-    private static final Class<?> INDEX = IndexOutOfBoundsException.class;
-    private static final Class<?> ARGUMENT = IllegalArgumentException.class;
-    private static final Class<?> STATE = IllegalStateException.class;
-    private static int promise = 0;
-    private static int checks = 0;
-    private static int wrong = 0;
-
-    private interface Call {
-        long answer();
-    }
-
-    private static void is(String what, long got, long due) {
-        checks++;
-        if (got != due) {
-            wrong++;
-            System.out.println("promise " + promise + ": " + what + " is " + got + ", due is " + due);
-        }
-    }
-
-    private static void fails(String what, Class<?> due, Call call) {
-        checks++;
-        String got = "nothing";
-        try {
-            call.answer();
-        } catch (RuntimeException e) {
-            if (e.getClass() == due) {
-                return;
-            }
-            got = e.getClass().getName();
-        }
-        wrong++;
-        System.out.println("promise " + promise + ": " + what + " throws " + got + ", due is " + due.getName());
-    }
-
-    private static void type(HallHeating h, String text) {
-        h.clearText();
-        for (int i = 0; i < text.length(); i++) {
-            h.append(text.charAt(i));
-        }
-    }
-
-    private static HallHeating loaded(String text) {
-        HallHeating h = new HallHeating();
-        type(h, text);
-        h.load();
-        return h;
-    }
-
-    /** All that can be asked of the state, as one text. */
-    private static String all(HallHeating h) {
-        StringBuilder s = new StringBuilder();
-        for (int w = 0; w <= 9; w++) s.append(h.about(w)).append(' ');
-        for (int r = 0; r < h.about(1); r++) for (int w = 0; w <= 6; w++) s.append(h.room(r, w)).append(' ');
-        for (int g = 0; g < h.about(2); g++) s.append(h.owes(g)).append(' ');
-        for (int b = 0; b < h.about(3); b++) for (int w = 0; w <= 9; w++) s.append(h.booking(b, w)).append(' ');
-        return s.toString();
-    }
-
-    private static void same(String what, String got, String due) {
-        is(what + " [" + got + "] and [" + due + "], the same", got.equals(due) ? 1 : 0, 1);
-    }
-
+public final class PromiseTest extends Checks {
     /** A room that does not cool below 25 degrees, two groups, and two bookings with no hour between them. */
-    private static HallHeating plain() {
-        HallHeating h = new HallHeating();
+    private static CheckedHall plain() {
+        CheckedHall h = new CheckedHall();
         h.addRoom(2, 5, 2, 10);
         h.addGroup();
         h.addGroup();
@@ -75,8 +12,8 @@ public final class PromiseTest {
     }
 
     /** A room with a degree an hour that keeps its 10 degrees; heating for its booking begins at 5. */
-    private static HallHeating slow() {
-        HallHeating h = new HallHeating();
+    private static CheckedHall slow() {
+        CheckedHall h = new CheckedHall();
         h.outside(10);
         h.addRoom(1, 9, 1, 10);
         h.addGroup();
@@ -85,8 +22,8 @@ public final class PromiseTest {
     }
 
     private static void newObject() {
-        promise = 1;
-        HallHeating h = new HallHeating();
+        says("promise 1");
+        CheckedHall h = new CheckedHall();
         int[] due = {0, 0, 0, 0, 5, 0, 0, 0, 0, 0};
         for (int w = 0; w <= 9; w++) is("about(" + w + ")", h.about(w), due[w]);
         is("errorPosition", h.errorPosition(), 0);
@@ -102,8 +39,8 @@ public final class PromiseTest {
     }
 
     private static void append() {
-        promise = 2;
-        HallHeating h = new HallHeating();
+        says("promise 2");
+        CheckedHall h = new CheckedHall();
         is("append", h.append('H'), 1);
         is("append(0)", h.append(0), 2);
         is("append(255)", h.append(255), 3);
@@ -120,8 +57,8 @@ public final class PromiseTest {
     }
 
     private static void clearText() {
-        promise = 3;
-        HallHeating h = new HallHeating();
+        says("promise 3");
+        CheckedHall h = new CheckedHall();
         h.append('x');
         h.append('y');
         is("clearText", h.clearText(), 2);
@@ -131,18 +68,18 @@ public final class PromiseTest {
     }
 
     private static void errorAt(String text, int due) {
-        HallHeating h = new HallHeating();
-        type(h, text);
+        CheckedHall h = new CheckedHall();
+        h.type(text);
         is("errorPosition of " + text, h.errorPosition(), due);
         is("length then", h.clearText(), text.length());
         if (due != NONE) {
-            type(h, text);
+            h.type(text);
             fails("load of " + text, STATE, h::load);
         }
     }
 
     private static void errorPosition() {
-        promise = 4;
+        says("promise 4");
         errorAt("", 0);
         errorAt("h", 0);
         errorAt("H", NONE);
@@ -183,9 +120,9 @@ public final class PromiseTest {
         errorAt("Ho-20", NONE);
         errorAt("Ho-21", 4);
         errorAt("Ho+25o-20o+00", NONE);
-        HallHeating shorter = new HallHeating();
-        type(shorter, "Hr11130g");
-        type(shorter, "Hr1113");
+        CheckedHall shorter = new CheckedHall();
+        shorter.type("Hr11130g");
+        shorter.type("Hr1113");
         is("errorPosition of a text after a longer one", shorter.errorPosition(), 6);
         errorPositionOfBookings();
     }
@@ -227,8 +164,8 @@ public final class PromiseTest {
     }
 
     private static void load() {
-        promise = 5;
-        HallHeating h = new HallHeating();
+        says("promise 5");
+        CheckedHall h = new CheckedHall();
         h.addRoom(1, 1, 1, 1);
         h.addGroup();
         h.book(0, 0, 0, 3, 20);
@@ -236,10 +173,10 @@ public final class PromiseTest {
         h.pass(1);
         h.save(0);
         h.save(1);
-        String before = all(h);
-        type(h, "Hr12304r56730ggb010070312o-");
+        String before = h.all();
+        h.type("Hr12304r56730ggb010070312o-");
         fails("load of no hall", STATE, h::load);
-        same("state then", all(h), before);
+        same("state then", h.all(), before);
         is("undo then", h.undo(), 4);
         is("restore then", h.restore(1), 1);
         h.append('1');
@@ -254,21 +191,21 @@ public final class PromiseTest {
         fails("restore(0) then", STATE, () -> h.restore(0));
         fails("restore(1) then", STATE, () -> h.restore(1));
         is("willOwe(0)", h.willOwe(0), 0);
-        same("hall of the text", all(h), "0 2 2 1 -19 0 0 0 0 0 1 2 3 4 -99 0 -99 5 6 7 30 -99 -99 -99 0 0 0 1 7 3 12 0 0 0 0 0 ");
+        same("hall of the text", h.all(), "0 2 2 1 -19 0 0 0 0 0 1 2 3 4 -99 0 -99 5 6 7 30 -99 -99 -99 0 0 0 1 7 3 12 0 0 0 0 0 ");
         is("length then", h.clearText(), 29);
-        type(h, "H");
+        h.type("H");
         is("load of nothing", h.load(), 0);
         is("temperature outside", h.about(4), 5);
         is("rooms", h.about(1), 0);
         is("groups", h.about(2), 0);
         is("bookings", h.about(3), 0);
-        HallHeating two = loaded("Ho+20r11100o+00o-05");
+        CheckedHall two = CheckedHall.loaded("Ho+20r11100o+00o-05");
         is("the last temperature outside", two.about(4), -5);
     }
 
     private static void about() {
-        promise = 6;
-        HallHeating h = plain();
+        says("promise 6");
+        CheckedHall h = plain();
         fails("about(-1)", ARGUMENT, () -> h.about(-1));
         fails("about(10)", ARGUMENT, () -> h.about(10));
         is("hour", h.about(0), 0);
@@ -289,20 +226,20 @@ public final class PromiseTest {
         h.pay(1);
         is("groups together, paid", h.about(6), 16);
         is("rest, paid", h.about(8), 5);
-        HallHeating both = loaded("Hr11110r11110gb000000112b100000115");
+        CheckedHall both = CheckedHall.loaded("Hr11110r11110gb000000112b100000115");
         is("pass", both.pass(1), 3);
         is("one pilot flame for all rooms", both.about(8), 1);
         is("heated hours of both rooms", both.about(9), 2);
     }
 
     private static void room() {
-        promise = 7;
-        HallHeating h = plain();
+        says("promise 7");
+        CheckedHall h = plain();
         fails("room(1, 0)", INDEX, () -> h.room(1, 0));
         fails("room(-1, 7)", INDEX, () -> h.room(-1, 7));
         fails("room(0, 7)", ARGUMENT, () -> h.room(0, 7));
         fails("room(0, -1)", ARGUMENT, () -> h.room(0, -1));
-        HallHeating four = loaded("Hr12304");
+        CheckedHall four = CheckedHall.loaded("Hr12304");
         for (int w = 0; w <= 3; w++) is("room(0, " + w + ")", four.room(0, w), w + 1);
         int[][] due = {{NONE, 0, NONE}, {NONE, 0, 0}, {NONE, 0, 0}, {NONE, 0, 0}, {NONE, 0, 0}, {0, 1, 0}, {0, 1, 0},
             {1, NONE, 1}, {NONE, NONE, NONE}};
@@ -312,7 +249,7 @@ public final class PromiseTest {
             is("temperature at " + hour, h.room(0, 3), warm[hour]);
             h.pass(1);
         }
-        HallHeating order = loaded("Hr11130gb000090112b000030112b000060112r11130b100020112");
+        CheckedHall order = CheckedHall.loaded("Hr11130gb000090112b000030112b000060112r11130b100020112");
         is("next of three", order.room(0, 5), 1);
         is("next of the other room", order.room(1, 5), 3);
         order.pass(3);
@@ -323,18 +260,18 @@ public final class PromiseTest {
 
     /** What an hour does, seen by the numbers of room, owes and booking. */
     private static void hours() {
-        promise = 7;
-        HallHeating cold = new HallHeating();
+        says("promise 7");
+        CheckedHall cold = new CheckedHall();
         cold.outside(-20);
         cold.addRoom(1, 9, 1, 30);
         cold.addRoom(1, 1, 1, -10);
         is("9 * 50 / 100 degrees less", cold.later(0, 1), 26);
         is("1 * 10 / 100 degrees less", cold.later(1, 1), -10);
-        HallHeating warm = new HallHeating();
+        CheckedHall warm = new CheckedHall();
         warm.outside(25);
         warm.addRoom(1, 9, 1, -10);
         is("9 * -35 / 100 degrees less, towards 0", warm.later(0, 1), -7);
-        HallHeating begun = slow();
+        CheckedHall begun = slow();
         is("begins", begun.begins(0), 5);
         begun.pass(6);
         is("a degree more", begun.room(0, 3), 11);
@@ -345,28 +282,28 @@ public final class PromiseTest {
         begun.undo();
         is("begun on a copy, too", begun.later(0, 1), 13);
         is("begun in a state that is undone to, too", begun.room(0, 6), 0);
-        HallHeating hundred = new HallHeating();
+        CheckedHall hundred = new CheckedHall();
         hundred.addRoom(1, 5, 1, 25);
         is("5 * 20 / 100 degrees less", hundred.later(0, 1), 24);
-        HallHeating above = loaded("Hr11130go+25b000000112");
+        CheckedHall above = CheckedHall.loaded("Hr11130go+25b000000112");
         is("pass above the wanted temperature", above.pass(1), 0);
         is("it is not cooled to it", above.room(0, 3), 30);
-        HallHeating next = slow();
+        CheckedHall next = slow();
         next.pass(6);
         next.book(0, 0, 13, 1, 12);
         is("another one is next, and is not needed yet", next.room(0, 6), NONE);
         is("begins only behind it", next.begins(0), 14);
         next.cancel(1);
         is("next again, and begun", next.room(0, 6), 0);
-        HallHeating far = slow();
+        CheckedHall far = slow();
         far.book(0, 0, 14, 1, 12);
         far.pass(5);
         is("only the next one is looked at", far.room(0, 6), NONE);
     }
 
     private static void owes() {
-        promise = 8;
-        HallHeating h = plain();
+        says("promise 8");
+        CheckedHall h = plain();
         fails("owes(2)", INDEX, () -> h.owes(2));
         fails("owes(-1)", INDEX, () -> h.owes(-1));
         h.pass(6);
@@ -378,33 +315,33 @@ public final class PromiseTest {
         is("groups together", h.about(6), 16);
         h.pass(1);
         is("owes(1), own hour", h.owes(1), 12);
-        HallHeating sameGroup = loaded("Hr25210go+05b000050218b000070120");
+        CheckedHall sameGroup = CheckedHall.loaded("Hr25210go+05b000050218b000070120");
         sameGroup.pass(7);
         is("owes, the same group behind", sameGroup.owes(0), 16);
-        HallHeating gap = loaded("Hr25210ggo+05b000050218b010080118");
+        CheckedHall gap = CheckedHall.loaded("Hr25210ggo+05b000050218b010080118");
         gap.pass(9);
         is("owes(0), an hour between", gap.owes(0), 16);
         is("owes(1), an hour between", gap.owes(1), 0);
-        HallHeating otherRoom = loaded("Hr25210r25225ggo+05b000050218b110070112");
+        CheckedHall otherRoom = CheckedHall.loaded("Hr25210r25225ggo+05b000050218b110070112");
         otherRoom.pass(7);
         is("owes(0), other room behind", otherRoom.owes(0), 16);
         is("owes(1), other room behind", otherRoom.owes(1), 0);
-        HallHeating odd = loaded("Hr11710ggo+10b000020117b010030112");
+        CheckedHall odd = CheckedHall.loaded("Hr11710ggo+10b000020117b010030112");
         odd.pass(3);
         is("preheat debt", odd.booking(0, 5), 7);
         is("owes(0), 7 less the half rounded down", odd.owes(0), 4);
         is("owes(1), the half of 7 rounded down", odd.owes(1), 3);
-        HallHeating late = loaded("Hr25210ggo+05b000050218");
+        CheckedHall late = CheckedHall.loaded("Hr25210ggo+05b000050218");
         late.pass(6);
         late.book(0, 1, 7, 1, 12);
         late.pass(1);
         is("owes(1), booked at last", late.owes(1), 8);
-        HallHeating gone = plain();
+        CheckedHall gone = plain();
         gone.pass(6);
         gone.cancel(1);
         gone.pass(1);
         is("owes(0), cancelled at last", gone.owes(0), 16);
-        HallHeating before = plain();
+        CheckedHall before = plain();
         before.pass(6);
         before.pay(0);
         before.pass(1);
@@ -412,8 +349,8 @@ public final class PromiseTest {
     }
 
     private static void booking() {
-        promise = 9;
-        HallHeating h = plain();
+        says("promise 9");
+        CheckedHall h = plain();
         fails("booking(2, 0)", INDEX, () -> h.booking(2, 0));
         fails("booking(-1, 10)", INDEX, () -> h.booking(-1, 10));
         fails("booking(0, 10)", ARGUMENT, () -> h.booking(0, 10));
@@ -436,19 +373,19 @@ public final class PromiseTest {
         is("own heat, marked as empty", h.booking(1, 6), 4);
         is("a cold hour: 18 is less than 20 less 1", h.booking(1, 8), 1);
         is("no cold hour", h.booking(0, 8), 0);
-        HallHeating edge = loaded("Hr11917go+17b000000118b000010120b000020220");
+        CheckedHall edge = CheckedHall.loaded("Hr11917go+17b000000118b000010120b000020220");
         edge.pass(4);
         is("17 is not less than 18 less 1", edge.booking(0, 8), 0);
         is("18 is less than 20 less 1", edge.booking(1, 8), 1);
         is("20 is warm", edge.booking(2, 8), 0);
-        HallHeating other = loaded("Hr11110r11110ggb110020312");
+        CheckedHall other = CheckedHall.loaded("Hr11110r11110ggb110020312");
         int[] numbers = {1, 1, 2, 3, 12};
         for (int w = 0; w <= 4; w++) is("booking(0, " + w + ")", other.booking(0, w), numbers[w]);
     }
 
     private static void addRoom() {
-        promise = 10;
-        HallHeating h = new HallHeating();
+        says("promise 10");
+        CheckedHall h = new CheckedHall();
         int[][] bad = {{0, 1, 1, 0}, {10, 1, 1, 0}, {1, 0, 1, 0}, {1, 10, 1, 0}, {1, 1, 0, 0}, {1, 1, 10, 0},
             {1, 1, 1, -11}, {1, 1, 1, 31}};
         for (int[] b : bad) fails("addRoom", ARGUMENT, () -> h.addRoom(b[0], b[1], b[2], b[3]));
@@ -471,21 +408,21 @@ public final class PromiseTest {
     }
 
     private static void addGroup() {
-        promise = 11;
-        HallHeating h = new HallHeating();
+        says("promise 11");
+        CheckedHall h = new CheckedHall();
         for (int g = 0; g < 6; g++) is("addGroup", h.addGroup(), g);
         fails("a seventh group", STATE, h::addGroup);
         is("groups", h.about(2), 6);
         is("owes", h.owes(5), 0);
         is("remembered", h.undo(), 5);
-        HallHeating again = loaded("Hr11110gb000000112");
+        CheckedHall again = CheckedHall.loaded("Hr11110gb000000112");
         again.addGroup();
         again.undo();
         again.pass(1);
         is("owes(0)", again.owes(0), 1);
         again.addGroup();
         is("owes(1)", again.owes(1), 0);
-        HallHeating second = new HallHeating();
+        CheckedHall second = new CheckedHall();
         second.addRoom(1, 1, 1, 10);
         second.addGroup();
         second.save(0);
@@ -496,10 +433,10 @@ public final class PromiseTest {
         second.restore(0);
         second.addGroup();
         is("owes(1), added after restore", second.owes(1), 0);
-        HallHeating used = plain();
+        CheckedHall used = plain();
         used.pass(8);
         is("willOwe(1)", used.willOwe(1), 12);
-        type(used, "Hg");
+        used.type("Hg");
         used.load();
         is("owes(0), loaded anew", used.owes(0), 0);
         used.addGroup();
@@ -507,8 +444,8 @@ public final class PromiseTest {
     }
 
     private static void book() {
-        promise = 12;
-        HallHeating h = loaded("Hr11110r11110gg");
+        says("promise 12");
+        CheckedHall h = CheckedHall.loaded("Hr11110r11110gg");
         h.pass(10);
         fails("no room", INDEX, () -> h.book(2, 0, 0, 0, 0));
         fails("no room", INDEX, () -> h.book(-1, 0, 10, 1, 12));
@@ -544,8 +481,8 @@ public final class PromiseTest {
     }
 
     private static void cancel() {
-        promise = 13;
-        HallHeating h = plain();
+        says("promise 13");
+        CheckedHall h = plain();
         fails("cancel(2)", INDEX, () -> h.cancel(2));
         fails("cancel(-1)", INDEX, () -> h.cancel(-1));
         h.book(0, 1, 30, 1, 13);
@@ -568,14 +505,14 @@ public final class PromiseTest {
         fails("cancel, its first hour went by", STATE, () -> h.cancel(1));
         fails("cancel, over", STATE, () -> h.cancel(0));
         is("bookings", h.about(3), 3);
-        HallHeating fresh = plain();
+        CheckedHall fresh = plain();
         fresh.pass(7);
         fresh.prove(0, true);
         fresh.cancel(1);
         fresh.book(0, 1, 7, 1, 20);
         is("a new one is not marked", fresh.booking(1, 7), 0);
         fresh.cancel(1);
-        HallHeating again = new HallHeating();
+        CheckedHall again = new CheckedHall();
         again.addRoom(1, 1, 1, 10);
         again.addGroup();
         again.save(0);
@@ -592,8 +529,8 @@ public final class PromiseTest {
     }
 
     private static void prove() {
-        promise = 14;
-        HallHeating h = plain();
+        says("promise 14");
+        CheckedHall h = plain();
         fails("prove(1, true)", INDEX, () -> h.prove(1, true));
         fails("prove(-1, true)", INDEX, () -> h.prove(-1, true));
         fails("nothing has the hour of now", STATE, () -> h.prove(0, true));
@@ -613,19 +550,19 @@ public final class PromiseTest {
         is("the parish pays", h.about(7), 4);
         is("the group does not", h.owes(1), owed);
         fails("over", STATE, () -> h.prove(0, true));
-        HallHeating two = loaded("Hr11110gb000000225");
+        CheckedHall two = CheckedHall.loaded("Hr11110gb000000225");
         two.prove(0, true);
         two.pass(2);
         is("the mark was for one hour", two.about(7), 1);
         is("the next one is charged", two.owes(0), 1);
-        HallHeating rooms = loaded("Hr11110r11110gb100000112b000000112");
+        CheckedHall rooms = CheckedHall.loaded("Hr11110r11110gb100000112b000000112");
         is("the booking of that room", rooms.prove(1, true), 0);
         is("that of the other", rooms.booking(1, 7), 0);
     }
 
     private static void outside() {
-        promise = 15;
-        HallHeating h = new HallHeating();
+        says("promise 15");
+        CheckedHall h = new CheckedHall();
         fails("outside(-21)", ARGUMENT, () -> h.outside(-21));
         fails("outside(26)", ARGUMENT, () -> h.outside(26));
         is("outside", h.outside(-20), 5);
@@ -638,8 +575,8 @@ public final class PromiseTest {
     }
 
     private static void pay() {
-        promise = 16;
-        HallHeating h = plain();
+        says("promise 16");
+        CheckedHall h = plain();
         fails("pay(2)", INDEX, () -> h.pay(2));
         fails("pay(-1)", INDEX, () -> h.pay(-1));
         h.pass(6);
@@ -656,8 +593,8 @@ public final class PromiseTest {
     }
 
     private static void pass() {
-        promise = 17;
-        HallHeating h = plain();
+        says("promise 17");
+        CheckedHall h = plain();
         fails("pass(0)", ARGUMENT, () -> h.pass(0));
         fails("pass(49)", ARGUMENT, () -> h.pass(49));
         fails("pass(-1)", ARGUMENT, () -> h.pass(-1));
@@ -679,24 +616,22 @@ public final class PromiseTest {
     }
 
     private static void undo() {
-        promise = 18;
-        HallHeating h = new HallHeating();
-        String[] states = new String[20];
-        for (int i = 0; i < 16; i++) {
-            states[i] = all(h);
-            act(h, i);
+        says("promise 18");
+        String[] states = new String[17];
+        for (int i = 0; i <= 16; i++) states[i] = acted(i).all();
+        for (int back = 1; back <= 14; back++) {
+            CheckedHall h = acted(16);
+            for (int i = 1; i <= back; i++) is("undo", h.undo(), 14 - i);
+            same("undone " + back, h.all(), states[16 - back]);
+            if (back < 14) continue;
+            fails("undo of a forgotten one", STATE, h::undo);
+            same("state then", h.all(), states[2]);
+            h.outside(3);
+            is("undo, remembered anew", h.undo(), 0);
         }
-        for (int i = 15; i >= 2; i--) {
-            is("undo", h.undo(), i - 2);
-            same("undone " + i, all(h), states[i]);
-        }
-        fails("undo of a forgotten one", STATE, h::undo);
-        same("state then", all(h), states[2]);
-        h.outside(3);
-        is("undo, remembered anew", h.undo(), 0);
-        HallHeating none = plain();
+        CheckedHall none = plain();
         is("five actions", none.undo(), 4);
-        String before = all(none);
+        String before = none.all();
         fails("pass", ARGUMENT, () -> none.pass(0));
         fails("prove", STATE, () -> none.prove(0, true));
         fails("book", STATE, () -> none.book(0, 0, 5, 1, 12));
@@ -708,17 +643,23 @@ public final class PromiseTest {
         none.simulate(1, 5);
         none.append('H');
         none.clearText();
-        same("state then", all(none), before);
+        same("state then", none.all(), before);
         is("nothing else is an action", none.undo(), 3);
-        HallHeating many = new HallHeating();
+        CheckedHall many = new CheckedHall();
         for (int i = 0; i < 40; i++) many.outside(i % 20);
         for (int i = 13; i >= 0; i--) is("undo", many.undo(), i);
         fails("undo", STATE, many::undo);
         is("outside", many.about(4), 5);
     }
 
+    private static CheckedHall acted(int actions) {
+        CheckedHall h = new CheckedHall();
+        for (int i = 0; i < actions; i++) act(h, i);
+        return h;
+    }
+
     /** One action of each kind and more, also such that change nothing. */
-    private static void act(HallHeating h, int i) {
+    private static void act(CheckedHall h, int i) {
         switch (i) {
             case 0: case 1: h.addRoom(1 + i, 2, 3, 9); break;
             case 2: case 3: h.addGroup(); break;
@@ -738,18 +679,18 @@ public final class PromiseTest {
     }
 
     private static void later() {
-        promise = 19;
-        HallHeating h = plain();
+        says("promise 19");
+        CheckedHall h = plain();
         fails("later(1, 0)", INDEX, () -> h.later(1, 0));
         fails("later(-1, 49)", INDEX, () -> h.later(-1, 49));
         fails("later(0, -1)", ARGUMENT, () -> h.later(0, -1));
         fails("later(0, 49)", ARGUMENT, () -> h.later(0, 49));
         int[] warm = {10, 10, 12, 14, 16, 18, 18, 18, 20, 20};
-        String before = all(h);
+        String before = h.all();
         for (int i = 0; i < warm.length; i++) is("later(0, " + i + ")", h.later(0, i), warm[i]);
         is("later(0, 48)", h.later(0, 48), 20);
-        same("state then", all(h), before);
-        HallHeating end = loaded("Hr91930o+00");
+        same("state then", h.all(), before);
+        CheckedHall end = CheckedHall.loaded("Hr91930o+00");
         for (int i = 0; i < 5; i++) end.pass(48);
         is("temperature at 240", end.room(0, 3), 30);
         end.addRoom(1, 9, 1, 30);
@@ -758,8 +699,8 @@ public final class PromiseTest {
     }
 
     private static void begins() {
-        promise = 20;
-        HallHeating h = plain();
+        says("promise 20");
+        CheckedHall h = plain();
         fails("begins(2)", INDEX, () -> h.begins(2));
         fails("begins(-1)", INDEX, () -> h.begins(-1));
         is("begins(0)", h.begins(0), 1);
@@ -772,43 +713,43 @@ public final class PromiseTest {
         is("over", h.begins(0), NONE);
         is("the next", h.begins(1), 7);
         is("hour", h.about(0), 7);
-        HallHeating warm = loaded("Hr11130go+25b000090112");
+        CheckedHall warm = CheckedHall.loaded("Hr11130go+25b000090112");
         is("nothing is missing", warm.begins(0), 9);
-        HallHeating now = loaded("Hr11100go+00b000400125");
+        CheckedHall now = CheckedHall.loaded("Hr11100go+00b000400125");
         is("25 hours are too few", now.begins(0), 15);
-        HallHeating rooms = loaded("Hr11125r11100go+00b000400112b100400125");
+        CheckedHall rooms = CheckedHall.loaded("Hr11125r11100go+00b000400112b100400125");
         is("of the other room", rooms.begins(1), 15);
     }
 
     private static void cost() {
-        promise = 21;
-        HallHeating h = plain();
+        says("promise 21");
+        CheckedHall h = plain();
         fails("no room", INDEX, () -> h.cost(1, 0, -1, 0, 0));
         fails("no group", INDEX, () -> h.cost(0, 2, -1, 0, 0));
         int[][] bad = {{-1, 1, 12}, {200, 1, 12}, {9, 0, 12}, {9, 13, 12}, {9, 1, 11}, {9, 1, 26}};
         for (int[] b : bad) fails("cost", ARGUMENT, () -> h.cost(0, 0, b[0], b[1], b[2]));
         is("taken", h.cost(0, 0, 6, 3, 12), NONE);
-        String before = all(h);
+        String before = h.all();
         is("two degrees behind it", h.cost(0, 0, 8, 2, 22), 5);
         is("nothing is missing", h.cost(0, 0, 8, 2, 20), 0);
         is("before it", h.cost(0, 1, 0, 1, 12), 5);
-        same("state then", all(h), before);
+        same("state then", h.all(), before);
         h.pass(6);
         fails("gone by", ARGUMENT, () -> h.cost(0, 0, 5, 1, 12));
         for (int b = 2; b < 12; b++) h.book(0, 0, 20 + b, 1, 12);
         is("12 bookings", h.cost(0, 0, 100, 1, 12), NONE);
         fails("12 bookings, no group", INDEX, () -> h.cost(0, 2, 100, 1, 12));
-        HallHeating less = slow();
+        CheckedHall less = slow();
         less.pass(6);
         is("it stops preheating: less", less.cost(0, 0, 9, 1, 12), -6);
-        HallHeating flame = loaded("Hr11110r31110gb000000125");
+        CheckedHall flame = CheckedHall.loaded("Hr11110r31110gb000000125");
         is("the flame burns anyhow", flame.cost(1, 0, 0, 1, 12), 3);
         is("and not in the next hour", flame.cost(1, 0, 0, 2, 12), 3 + 3 + 1);
     }
 
     private static void willOwe() {
-        promise = 22;
-        HallHeating h = plain();
+        says("promise 22");
+        CheckedHall h = plain();
         fails("willOwe(2)", INDEX, () -> h.willOwe(2));
         fails("willOwe(-1)", INDEX, () -> h.willOwe(-1));
         is("willOwe(0)", h.willOwe(0), 8);
@@ -822,37 +763,35 @@ public final class PromiseTest {
         is("willOwe(1), paid", h.willOwe(1), 0);
         h.pass(1);
         is("willOwe(0), all over", h.willOwe(0), 8);
-        HallHeating two = loaded("Hr11110gb000000225");
+        CheckedHall two = CheckedHall.loaded("Hr11110gb000000225");
         two.prove(0, true);
         is("the mark is for one hour", two.willOwe(0), 1);
-        HallHeating late = loaded("Hr11110gb001991225");
+        CheckedHall late = CheckedHall.loaded("Hr11110gb001991225");
         is("the latest booking", late.willOwe(0), 15);
     }
 
     private static void coldest() {
-        promise = 23;
-        HallHeating none = loaded("Hr11110g");
+        says("promise 23");
+        CheckedHall none = CheckedHall.loaded("Hr11110g");
         is("without bookings", none.coldest(), NONE);
-        HallHeating h = loaded("Hr11100r11100r11100go+00b000000312b100000512b200000512");
+        CheckedHall h = CheckedHall.loaded("Hr11100r11100r11100go+00b000000312b100000512b200000512");
         is("the greatest, the smallest number", h.coldest(), 1);
         is("hour", h.about(0), 0);
         h.pass(20);
         is("all over", h.coldest(), 1);
-        HallHeating warm = loaded("Hr11130go+25b000000112b000010112");
+        CheckedHall warm = CheckedHall.loaded("Hr11130go+25b000000112b000010112");
         is("all 0", warm.coldest(), 0);
-        HallHeating last = loaded("Hr11125r11100go+00b000000112b100010812");
+        CheckedHall last = CheckedHall.loaded("Hr11125r11100go+00b000000112b100010812");
         is("the last", last.coldest(), 1);
     }
 
-    private static void script(HallHeating h, int n, long script, int due) {
-        String before = all(h);
+    private static void script(CheckedHall h, int n, long script, int due) {
         is("runScript(" + n + ", " + script + ")", h.runScript(n, script), due);
-        same("state then", all(h), before);
     }
 
     private static void runScript() {
-        promise = 24;
-        HallHeating h = plain();
+        says("promise 24");
+        CheckedHall h = plain();
         fails("n 0", ARGUMENT, () -> h.runScript(0, 0));
         fails("n 4", ARGUMENT, () -> h.runScript(4, 0));
         fails("negative", ARGUMENT, () -> h.runScript(3, -1));
@@ -861,6 +800,7 @@ public final class PromiseTest {
         fails("11 digits", ARGUMENT, () -> h.runScript(2, 10000000000L));
         fails("16 digits", ARGUMENT, () -> h.runScript(3, 1000000000000000L));
         fails("19 digits", ARGUMENT, () -> h.runScript(3, Long.MAX_VALUE));
+        String before = h.all();
         script(h, 1, 0, 0);
         script(h, 3, 0, 0);
         script(h, 2, 10001, 0);
@@ -887,28 +827,29 @@ public final class PromiseTest {
         script(h, 3, 20120_10001_60011L, NONE);
         script(h, 3, 20120_10001_60012L, 2);
         script(h, 3, 20020_10001_60011L, 2);
-        HallHeating end = loaded("Hr11120go+20");
+        same("state then", h.all(), before);
+        CheckedHall end = CheckedHall.loaded("Hr11120go+20");
         for (int i = 0; i < 5; i++) end.pass(i == 0 ? 46 : 48);
         script(end, 3, 10001_10001_10001L, 2);
         script(end, 1, 10003, 0);
         script(end, 1, 10002, NONE);
-        HallHeating marked = loaded("Hr11110gb000000225o+10");
+        CheckedHall marked = CheckedHall.loaded("Hr11110gb000000225o+10");
         script(marked, 3, 30100_10001_70000L, NONE);
         script(marked, 3, 30000_10001_70000L, 2);
         marked.prove(0, true);
         script(marked, 3, 30000_10001_70000L, 2);
-        HallHeating many = loaded("Hr11130ggo+20b000010112b000020112b000030112b000040112b000050112b000060112b000070112");
+        CheckedHall many = CheckedHall.loaded("Hr11130ggo+20b000010112b000020112b000030112b000040112b000050112b000060112b000070112");
         for (int b = 7; b < 12; b++) many.book(0, 1, 20 + b, 1, 12);
         script(many, 2, 51100_51100L, 1);
         script(many, 2, 10048_81101L, NONE);
         script(many, 1, 81200, 0);
-        HallHeating big = loaded("Hr99900go+00b000001220b000121220b000241220");
+        CheckedHall big = CheckedHall.loaded("Hr99900go+00b000001220b000121220b000241220");
         big.pass(36);
         int owed = big.owes(0);
         is("owes, on three digits", owed >= 200 && owed <= 999 ? 1 : 0, 1);
         script(big, 1, 70000 + owed, NONE);
         script(big, 1, 70000 + owed - 1, 0);
-        HallHeating bigger = loaded("Hr99900r99900r99900go+00b000001225b000121225b000241225b100001225b100121225"
+        CheckedHall bigger = CheckedHall.loaded("Hr99900r99900r99900go+00b000001225b000121225b000241225b100001225b100121225"
             + "b200001225b200121225");
         bigger.outside(-20);
         bigger.pass(36);
@@ -916,7 +857,7 @@ public final class PromiseTest {
         is("the meter, on four digits", meter >= 2000 && meter <= 9999 ? 1 : 0, 1);
         script(bigger, 1, 90000 + meter, NONE);
         script(bigger, 1, 90000 + meter + 1, 0);
-        HallHeating below = plain();
+        CheckedHall below = plain();
         below.pass(6);
         below.pay(0);
         below.pass(1);
@@ -924,7 +865,7 @@ public final class PromiseTest {
     }
 
     /** The same as simulate, by the actions. */
-    private static int byActions(HallHeating h, long seed, int m) {
+    private static int byActions(CheckedHall h, long seed, int m) {
         int parish = h.about(7);
         int heated = h.about(9);
         long x = seed;
@@ -941,55 +882,55 @@ public final class PromiseTest {
     }
 
     private static void simulate() {
-        promise = 25;
+        says("promise 25");
         String text = "Hr99510r29308ggb000001222b110001225b010121220b100200617b000300920";
-        HallHeating h = loaded(text);
+        CheckedHall h = CheckedHall.loaded(text);
         fails("m 0", ARGUMENT, () -> h.simulate(1, 0));
         fails("m 100", ARGUMENT, () -> h.simulate(1, 100));
         fails("m -1", ARGUMENT, () -> h.simulate(1, -1));
-        String before = all(h);
+        String before = h.all();
         long[] seeds = {0, 1, -1, 42, Long.MAX_VALUE, Long.MIN_VALUE, 123456789012345L, -987654321L};
         int parish = 0;
         for (long seed : seeds) {
             int got = h.simulate(seed, 60);
-            is("simulate(" + seed + ", 60)", got, byActions(loaded(text), seed, 60));
+            is("simulate(" + seed + ", 60)", got, byActions(CheckedHall.loaded(text), seed, 60));
             parish += got / 1000;
         }
         is("the parish pays sometimes", parish > 50 ? 1 : 0, 1);
-        same("state then", all(h), before);
+        same("state then", h.all(), before);
         h.prove(0, true);
-        HallHeating marked = loaded(text);
+        CheckedHall marked = CheckedHall.loaded(text);
         marked.prove(0, true);
         is("marks as they are", h.simulate(7, 1), byActions(marked, 7, 1));
         h.pass(9);
-        marked = loaded(text);
+        marked = CheckedHall.loaded(text);
         marked.prove(0, true);
         marked.pass(9);
         is("what grows in them", h.simulate(5, 30), byActions(marked, 5, 30));
-        HallHeating end = loaded("Hr93510gb001991225");
+        CheckedHall end = CheckedHall.loaded("Hr93510gb001991225");
         for (int i = 0; i < 4; i++) end.pass(48);
-        HallHeating other = loaded("Hr93510gb001991225");
+        CheckedHall other = CheckedHall.loaded("Hr93510gb001991225");
         for (int i = 0; i < 4; i++) other.pass(48);
         is("ends at 240", end.simulate(3, 99), byActions(other, 3, 99));
         is("other is at 240", other.about(0), 240);
         is("at 240", other.simulate(3, 99), 0);
-        is("no rooms", new HallHeating().simulate(9, 99), 0);
+        is("no rooms", new CheckedHall().simulate(9, 99), 0);
     }
 
     private static void save() {
-        promise = 26;
-        HallHeating h = plain();
+        says("promise 26");
+        CheckedHall h = plain();
         fails("save(2)", INDEX, () -> h.save(2));
         fails("save(-1)", INDEX, () -> h.save(-1));
         is("save(0)", h.save(0), 0);
         h.pass(8);
         is("save(1)", h.save(1), 8);
-        String later = all(h);
+        String later = h.all();
         h.pay(1);
         h.pass(30);
         is("no action", h.undo(), 7);
         is("restore(1)", h.restore(1), 8);
-        same("state then", all(h), later);
+        same("state then", h.all(), later);
         is("save(1) again", h.save(1), 8);
         h.restore(0);
         is("save over another", h.save(1), 0);
@@ -997,13 +938,13 @@ public final class PromiseTest {
     }
 
     private static void restore() {
-        promise = 27;
-        HallHeating h = plain();
+        says("promise 27");
+        CheckedHall h = plain();
         fails("restore(2)", INDEX, () -> h.restore(2));
         fails("restore(-1)", INDEX, () -> h.restore(-1));
         fails("restore(0)", STATE, () -> h.restore(0));
         h.pass(3);
-        String saved = all(h);
+        String saved = h.all();
         h.save(0);
         fails("restore(1)", STATE, () -> h.restore(1));
         h.pass(5);
@@ -1012,7 +953,7 @@ public final class PromiseTest {
         h.book(1, 2, 20, 1, 20);
         h.append('H');
         is("restore(0)", h.restore(0), 3);
-        same("state then", all(h), saved);
+        same("state then", h.all(), saved);
         is("the text is not restored", h.clearText(), 1);
         fails("undo then", STATE, h::undo);
         h.pass(9);
@@ -1020,15 +961,15 @@ public final class PromiseTest {
         is("undo goes back to it", h.about(0), 3);
         h.pass(9);
         is("restore(0) again", h.restore(0), 3);
-        same("state then", all(h), saved);
+        same("state then", h.all(), saved);
         h.pass(6);
         h.save(1);
         h.undo();
         is("undo leaves the slots", h.restore(1), 9);
-        type(h, "Hx");
+        h.type("Hx");
         fails("load", STATE, h::load);
         is("restore(1), a load that failed", h.restore(1), 9);
-        type(h, "H");
+        h.type("H");
         h.load();
         fails("restore(1), loaded", STATE, () -> h.restore(1));
         fails("restore(0), loaded", STATE, () -> h.restore(0));
@@ -1066,7 +1007,6 @@ public final class PromiseTest {
         simulate();
         save();
         restore();
-        System.out.println(checks + " checks, " + wrong + " wrong");
-        if (wrong != 0) System.exit(1);
+        end("PromiseTest");
     }
 }
