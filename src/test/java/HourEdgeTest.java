@@ -395,6 +395,18 @@ public final class HourEdgeTest extends Checks {
         owe(all, 5, 4);
         is(all.booking(0, 5), 9);
         is(all.booking(1, 5), 0);
+        says("another booking .. has its first hour right behind it: one of any number, with one of the same group ahead of it");
+        for (int behind = 0; behind < 4; behind++) {
+            CheckedHall any = hall(1, 1, 9, 4, 5);
+            for (int b = 0; b < 4; b++) {
+                if (b == behind) any.book(0, 1, 5, 1, 12);
+                else any.book(0, 0, b == 3 || b == 2 && behind == 3 ? 4 : 20 + b, 1, 12);
+            }
+            any.pass(4);
+            owe(any, 8, 0);
+            any.pass(1);
+            owe(any, 4, 4);
+        }
         says("When the last hour of a booking went by: no earlier hour of it");
         CheckedHall three = owing(8, 3);
         three.book(0, 1, 4, 1, 12);
@@ -538,6 +550,16 @@ public final class HourEdgeTest extends Checks {
         owe(last, 2, 2);
         is(last.booking(0, 6), 4);
         is(last.booking(0, 7), 0);
+        says("to the parish: in each hour in which it is marked, and for each room");
+        CheckedHall often = hall(2, 1, 3, 10, 5);
+        often.book(0, 0, 0, 3, 25);
+        for (int hour = 1; hour <= 3; hour++) {
+            often.prove(0, true);
+            often.pass(1);
+            is(often.about(7), 6 * hour);
+            is(often.about(6), 0);
+            is(often.about(8), hour);
+        }
         says("a mark in one of two rooms");
         CheckedHall rooms = hall(1, 1, 1, 10, 5);
         rooms.addRoom(3, 1, 1, 10);
@@ -590,9 +612,17 @@ public final class HourEdgeTest extends Checks {
         is(none.about(9), 0);
     }
 
-    /** A state in which the numbers of about are 6 (hour), 2, 3, 4 (bookings), -7, and more than 0. */
     private static CheckedHall used() {
-        CheckedHall h = hall(2, 1, 3, 10, 5);
+        CheckedHall h = new CheckedHall();
+        used(h);
+        return h;
+    }
+
+    /** A state in which the numbers of about are 6 (hour), 2, 3, 4 (bookings), -7, and more than 0. */
+    private static void used(CheckedHall h) {
+        h.addRoom(2, 1, 3, 10);
+        h.addGroup();
+        h.addGroup();
         h.addRoom(3, 1, 1, 10);
         h.addGroup();
         h.book(0, 0, 0, 2, 15);
@@ -600,15 +630,20 @@ public final class HourEdgeTest extends Checks {
         h.book(0, 1, 4, 1, 12);
         h.book(1, 0, 199, 12, 12);
         h.prove(0, true);
+        h.save(0);
         h.pass(6);
         h.outside(-7);
-        return h;
     }
 
     private static void about() {
         says("IllegalArgumentException if what is not 0 to 9");
         for (CheckedHall h : new CheckedHall[] {new CheckedHall(), used()}) {
             for (int what : new int[] {-1, 10, Integer.MIN_VALUE, Integer.MAX_VALUE}) fails(ARGUMENT, () -> h.about(what));
+        }
+        refused(ARGUMENT, HourEdgeTest::used, h -> h.about(10));
+        for (int w = 0; w <= 9; w++) {
+            int what = w;
+            leavesAll(HourEdgeTest::used, h -> h.about(what));
         }
         says("about: 0 to 9");
         // Room 0 has 3 and 2 degrees of heat (6 units marked, 4 not); room 1 a degree in each of the hours 0 to 3.
@@ -650,6 +685,12 @@ public final class HourEdgeTest extends Checks {
             fails(INDEX, () -> h.room(-1, what));
             fails(INDEX, () -> new CheckedHall().room(0, what));
         }
+        refused(INDEX, HourEdgeTest::used, x -> x.room(2, 0));
+        refused(ARGUMENT, HourEdgeTest::used, x -> x.room(1, 7));
+        for (int w = 0; w <= 6; w++) {
+            int what = w;
+            leavesAll(HourEdgeTest::used, x -> x.room(1, what));
+        }
         says("NONE without one; NONE if nothing does");
         CheckedHall none = hall(1, 1, 1, 10, 5);
         for (int w = 4; w <= 6; w++) is(none.room(0, w), NONE);
@@ -674,6 +715,8 @@ public final class HourEdgeTest extends Checks {
         says("owes: IndexOutOfBoundsException if there is no such group");
         CheckedHall h = used();
         for (int g : new int[] {-1, 3, 5, 6, NONE, Integer.MIN_VALUE, Integer.MAX_VALUE}) fails(INDEX, () -> h.owes(g));
+        refused(INDEX, HourEdgeTest::used, x -> x.owes(3));
+        leavesAll(HourEdgeTest::used, x -> x.owes(2));
         says("the units that were charged to it, less those that it paid");
         is(h.owes(0), 4);
         is(h.owes(1), 12);
@@ -706,6 +749,12 @@ public final class HourEdgeTest extends Checks {
             fails(INDEX, () -> h.booking(4, what));
             fails(INDEX, () -> h.booking(-1, what));
             fails(INDEX, () -> new CheckedHall().booking(0, what));
+        }
+        refused(INDEX, HourEdgeTest::used, x -> x.booking(4, 0));
+        refused(ARGUMENT, HourEdgeTest::used, x -> x.booking(3, 10));
+        for (int w = 0; w <= 9; w++) {
+            int what = w;
+            leavesAll(HourEdgeTest::used, x -> x.booking(1, what));
         }
         says("a booking's numbers, of one that is over and of the latest");
         int[][] due = {{0, 0, 0, 2, 15, 0, 10, 0, 2, 1}, {1, 1, 1, 3, 20, 3, 9, 0, 3, 1}, {0, 1, 4, 1, 12, 0, 0, 0, 0, 1},

@@ -114,6 +114,18 @@ public final class TextEdgeTest extends Checks {
         fails(ARGUMENT, () -> h.append(256));
         is(h.clearText(), 120);
         is(h.append('H'), 1);
+        says("append that is refused changes nothing: the text neither");
+        Recipe full = x -> {
+            x.type(FULL);
+            x.load();
+            x.save(0);
+            x.pass(3);
+        };
+        for (int c : new int[] {-1, 256, Integer.MIN_VALUE, Integer.MAX_VALUE}) {
+            refused(ARGUMENT, full, x -> x.append(c));
+            refused(ARGUMENT, x -> x.type("H"), x -> x.append(c));
+        }
+        for (int c : new int[] {0, 'g', 255}) refused(STATE, full, x -> x.append(c));
         says("append, refused with 119 characters in the text, leaves the last place");
         CheckedHall last = CheckedHall.typed(FULL.substring(0, 119));
         fails(ARGUMENT, () -> last.append(256));
